@@ -1,0 +1,73 @@
+/** Tournaments as the tests want them. */
+final class Scene {
+    private Scene() {
+    }
+
+    /** So many fencers, with their numbers as ranks, none formed yet. */
+    static Pommel fencers(int count) {
+        Pommel p = new Pommel();
+        for (int i = 0; i < count; i++) {
+            p.fencer(i, i % 6);
+        }
+        return p;
+    }
+
+    /** One pool, in which each fencer's spot is its number. */
+    static Pommel pool(int count) {
+        Pommel p = fencers(count);
+        p.form(1);
+        return p;
+    }
+
+    /** Starts a bout on the piste 0, when both have rested. */
+    static void begin(Pommel p, int bout) {
+        p.pass(120);
+        p.start(bout, 0);
+    }
+
+    static void hits(Pommel p, int piste, int who, int times) {
+        for (int i = 0; i < times; i++) {
+            p.hit(piste, who);
+        }
+    }
+
+    /** Fences a bout on the piste 0 to the end by hits: one of the scores is the goal. */
+    static void fence(Pommel p, int bout, int left, int right) {
+        begin(p, bout);
+        hits(p, 0, left > right ? 1 : 0, Math.min(left, right));
+        hits(p, 0, left > right ? 0 : 1, Math.max(left, right));
+    }
+
+    /** Fences all bouts of the pools, by time: the one with the smaller number wins 1 to 0. */
+    static void fencePools(Pommel p) {
+        int bouts = p.many(2);
+        for (int i = 0; i < bouts; i++) {
+            p.start(i, 0);
+            p.hit(0, p.ofBout(i, 1) < p.ofBout(i, 2) ? 0 : 1);
+            p.pass(300);
+        }
+    }
+
+    /** A table of all of one pool (nine fencers at most), whose seeds are the numbers. */
+    static Pommel table(int count) {
+        Pommel p = pool(count);
+        fencePools(p);
+        p.draw(0);
+        return p;
+    }
+
+    /** A table of sixteen out of four pools, whose seeds are the numbers. */
+    static Pommel fullTable() {
+        Pommel p = fencers(16);
+        p.form(4);
+        fencePools(p);
+        p.draw(0);
+        return p;
+    }
+
+    /** Fences a bout of the table to its goal on the piste 0. */
+    static void winInTable(Pommel p, int bout, int who) {
+        begin(p, bout);
+        hits(p, 0, who, 15);
+    }
+}
