@@ -30,6 +30,8 @@ final class Promise03Test {
         p.form(3);
         C.raises("form(3) again", IllegalStateException.class, p, () -> p.form(3));
         C.raises("form(5) again", IllegalArgumentException.class, p, () -> p.form(5));
+        Pommel one = Scene.pool(6);
+        C.raises("form(2) behind form(1)", IllegalStateException.class, one, () -> one.form(2));
         Pommel two = Scene.fencers(2);
         C.raises("form(1) of 2", IllegalStateException.class, two, () -> two.form(1));
         C.raises("form(0) of 2", IllegalArgumentException.class, two, () -> two.form(0));

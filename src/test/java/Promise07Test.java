@@ -62,6 +62,14 @@ final class Promise07Test {
         C.same("left", p.ofBout(1, 3), 5);
         C.same("right", p.ofBout(1, 4), 4);
         C.same("winner", p.ofBout(1, 5), 0);
+        p.pass(120);
+        p.start(2, 0);
+        Scene.hits(p, 0, 0, 3);
+        Scene.hits(p, 0, 1, 4);
+        C.yes("only the right one would have its goal: over", p.hit(0, 2));
+        C.same("left", p.ofBout(2, 3), 4);
+        C.same("right", p.ofBout(2, 4), 5);
+        C.same("winner", p.ofBout(2, 5), 2);
     }
 
     private static void extraMinute() {

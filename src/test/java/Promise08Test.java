@@ -98,7 +98,10 @@ final class Promise08Test {
         C.yes("one that was over ended as it did", p.of(1, 6) < at + 120);
         C.same("the void one is not met", p.order(1, 0), 1);
         C.same("nor given", p.order(1, 2), 3);
-        C.same("by nobody", p.order(0, 0), 0);
+        C.same("nor taken", p.order(1, 3), 5);
+        for (int what = 0; what < 4; what++) {
+            C.same("by nobody", p.order(0, what), 0);
+        }
         p.pass(120);
         p.start(5, 0);
         C.same("the piste is free", p.ofBout(5, 6), 0);

@@ -9,6 +9,7 @@ final class Promise16Test {
         before.fencer(2, 0);
         places(before, 2, 0, 1);
         byRounds();
+        fourRounds();
         outOnes();
         Pommel p = Scene.pool(3);
         C.noIndex("place", p, n -> p.place(n), -1, 3, Integer.MIN_VALUE, Integer.MAX_VALUE);
@@ -29,6 +30,18 @@ final class Promise16Test {
         // The last round: 3 and 2; who lost it is ahead of those of the first one.
         Scene.winInTable(p, 17, 0);
         places(p, 3, 2, 0, 1, 4, 5);
+    }
+
+    private static void fourRounds() {
+        Pommel p = Scene.fullTable();
+        for (int bout = 24; bout < 39; bout++) {
+            p.pass(120);
+            p.start(bout, 0);
+            // Each bout is won by the one with the greater seed.
+            p.hit(0, p.ofBout(bout, 1) > p.ofBout(bout, 2) ? 0 : 1);
+            p.pass(600);
+        }
+        places(p, 15, 14, 12, 13, 8, 9, 10, 11, 0, 1, 2, 3, 4, 5, 6, 7);
     }
 
     private static void outOnes() {
