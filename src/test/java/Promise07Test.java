@@ -1,99 +1,101 @@
-/** Promise 7: hit. */
+/** Promise 7: hit. Which hits count is in a test of the terms 3. */
 final class Promise07Test {
-    private static final Check C = new Check("promise 7");
+    private static final Check C = Check.ofPromise(7);
 
     public static void main(String[] args) {
+        tells();
+        over();
         wrongOnes();
-        toTheGoal();
-        bothAtOnce();
-        extraMinute();
-        inTheTable();
         C.end();
     }
 
-    private static void wrongOnes() {
-        Pommel p = Scene.pool(3);
-        C.range("hit(n, 0)", p, n -> p.hit(n, 0), -1, 3, Integer.MIN_VALUE, Integer.MAX_VALUE);
-        C.range("hit(0, n)", p, n -> p.hit(0, n), -1, 3, Integer.MIN_VALUE, Integer.MAX_VALUE);
+    private static void tells() {
+        C.says("Tells a HIT.");
+        Pommel p = Scene.pool(6);
+        int[] bouts = {Scene.bout(6, 0, 1), Scene.bout(6, 2, 3), Scene.bout(6, 4, 5)};
         for (int piste = 0; piste < 3; piste++) {
-            int on = piste;
-            C.raises("nothing is live", IllegalStateException.class, p, () -> p.hit(on, 0));
+            p.start(bouts[piste], piste);
         }
-        p.start(0, 1);
-        C.raises("not live there", IllegalStateException.class, p, () -> p.hit(0, 0));
-        C.range("hit(1, n)", p, n -> p.hit(1, n), -1, 3);
+        p.hit(0, 0);
+        scores(p, bouts[0], 1, 0);
+        C.says("piste: the PISTE");
+        scores(p, bouts[1], 0, 0);
+        p.hit(2, 1);
+        scores(p, bouts[2], 0, 1);
+        p.hit(1, 2);
+        scores(p, bouts[1], 1, 1);
+        scores(p, bouts[0], 1, 0);
+        C.says("who: 0 of the LEFT one, 1 of the RIGHT one, 2 of both");
+        p.hit(0, 0);
+        scores(p, bouts[0], 2, 0);
+        p.hit(0, 1);
+        scores(p, bouts[0], 2, 1);
+        p.hit(0, 2);
+        scores(p, bouts[0], 3, 2);
     }
 
-    private static void toTheGoal() {
-        Pommel p = Scene.pool(3);
-        p.start(0, 1);
-        for (int i = 1; i <= 4; i++) {
-            C.yes("not over by " + i, !p.hit(1, 1));
-            C.same("left", p.ofBout(0, 3), 0);
-            C.same("right", p.ofBout(0, 4), i);
+    private static void over() {
+        C.says("Returns whether the BOUT is OVER by it.");
+        for (int who = 0; who < 2; who++) {
+            Pommel p = Scene.pool(3);
+            p.start(0, 1);
+            for (int i = 1; i <= 4; i++) {
+                C.yes("not by " + i, !p.hit(1, who));
+            }
+            C.yes("by 5", p.hit(1, who));
+            C.same("over", p.ofBout(0, 0), 2);
+            Pommel extra = Scene.pool(3);
+            extra.start(0, 1);
+            extra.pass(180);
+            C.yes("not by one that does not count", !extra.hit(1, 2));
+            C.yes("by the first one in the extra minute", extra.hit(1, who));
+            Pommel both = Scene.pool(3);
+            both.start(0, 1);
+            Scene.hits(both, 1, who, 4);
+            C.yes("by one of both", both.hit(1, 2));
+            Pommel t = Scene.table(3);
+            t.start(4, 0);
+            for (int i = 1; i <= 14; i++) {
+                C.yes("not by " + i, !t.hit(0, who));
+            }
+            C.yes("by 15", t.hit(0, who));
         }
-        C.yes("not over by the left", !p.hit(1, 0));
-        p.pass(11);
-        C.yes("over by the goal", p.hit(1, 1));
-        C.same("left", p.ofBout(0, 3), 1);
-        C.same("right", p.ofBout(0, 4), 5);
-        C.same("over", p.ofBout(0, 0), 2);
-        C.same("winner", p.ofBout(0, 5), 1);
-        C.same("ended now", p.of(0, 6), 131);
-        C.same("piste", p.ofBout(0, 6), -1);
-        C.raises("it is over", IllegalStateException.class, p, () -> p.hit(1, 0));
+        Pommel neither = Scene.pool(3);
+        neither.start(0, 1);
+        Scene.hits(neither, 1, 2, 4);
+        C.yes("not by one of both that does not count", !neither.hit(1, 2));
     }
 
-    private static void bothAtOnce() {
+    private static void wrongOnes() {
+        C.says("Throws IllegalArgumentException if piste is not 0 to 2, or who is not 0 to 2");
         Pommel p = Scene.pool(3);
-        p.start(0, 0);
-        Scene.hits(p, 0, 2, 4);
-        C.same("left", p.ofBout(0, 3), 4);
-        C.same("right", p.ofBout(0, 4), 4);
-        C.yes("does not count", !p.hit(0, 2));
-        C.same("left", p.ofBout(0, 3), 4);
-        C.same("right", p.ofBout(0, 4), 4);
-        C.yes("over", p.hit(0, 0));
-        p.pass(120);
-        p.start(1, 0);
-        Scene.hits(p, 0, 0, 4);
-        Scene.hits(p, 0, 1, 3);
-        C.yes("only one would have its goal: over", p.hit(0, 2));
-        C.same("left", p.ofBout(1, 3), 5);
-        C.same("right", p.ofBout(1, 4), 4);
-        C.same("winner", p.ofBout(1, 5), 0);
-        p.pass(120);
-        p.start(2, 0);
-        Scene.hits(p, 0, 0, 3);
-        Scene.hits(p, 0, 1, 4);
-        C.yes("only the right one would have its goal: over", p.hit(0, 2));
-        C.same("left", p.ofBout(2, 3), 4);
-        C.same("right", p.ofBout(2, 4), 5);
-        C.same("winner", p.ofBout(2, 5), 2);
+        C.illegal("hit(n, 0)", p, n -> p.hit(n, 0), -1, 3, Scene.LEAST, Scene.MOST);
+        C.illegal("hit(0, n)", p, n -> p.hit(0, n), -1, 3, Scene.LEAST, Scene.MOST);
+        p.start(0, 1);
+        C.illegal("hit(1, n)", p, n -> p.hit(1, n), -1, 3, Scene.LEAST, Scene.MOST);
+        C.illegal("hit(n, 0), live", p, n -> p.hit(n, 0), -1, 3);
+        C.says("Throws IllegalStateException if no BOUT is LIVE there");
+        C.refuses("another piste", p, () -> p.hit(0, 0));
+        C.refuses("another piste", p, () -> p.hit(2, 2));
+        Scene.hits(p, 1, 0, 5);
+        C.refuses("it is over", p, () -> p.hit(1, 0));
+        Pommel time = Scene.pool(3);
+        time.start(0, 1);
+        time.pass(240);
+        C.refuses("it is over by time", time, () -> time.hit(1, 1));
+        Pommel black = Scene.pool(3);
+        black.start(0, 1);
+        black.card(1, 0, 2);
+        C.refuses("it is void", black, () -> black.hit(1, 2));
+        for (int who = 0; who <= 2; who++) {
+            int asked = who;
+            Pommel none = Scene.pool(3);
+            C.refuses("nothing was started", none, () -> none.hit(0, asked));
+        }
     }
 
-    private static void extraMinute() {
-        Pommel p = Scene.pool(3);
-        p.start(0, 0);
-        p.pass(180);
-        C.same("priority", p.ofBout(0, 9), 0);
-        C.yes("both do not count", !p.hit(0, 2));
-        C.same("left", p.ofBout(0, 3), 0);
-        C.yes("the first one ends it", p.hit(0, 1));
-        C.same("winner", p.ofBout(0, 5), 1);
-        C.same("right", p.ofBout(0, 4), 1);
-    }
-
-    private static void inTheTable() {
-        Pommel p = Scene.table(3);
-        Scene.begin(p, 4);
-        Scene.hits(p, 0, 2, 14);
-        C.same("left", p.ofBout(4, 3), 14);
-        C.yes("does not count", !p.hit(0, 2));
-        C.same("live", p.ofBout(4, 0), 1);
-        C.yes("over", p.hit(0, 1));
-        C.same("right", p.ofBout(4, 4), 15);
-        C.same("goes on", p.ofBout(5, 2), 2);
-        C.same("what is in the pool stays", p.order(2, 0), 2);
+    private static void scores(Pommel p, int bout, int left, int right) {
+        C.same("left of " + bout, p.ofBout(bout, 3), left);
+        C.same("right of " + bout, p.ofBout(bout, 4), right);
     }
 }

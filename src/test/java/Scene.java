@@ -1,5 +1,8 @@
 /** Tournaments as the tests want them. */
 final class Scene {
+    static final int LEAST = Integer.MIN_VALUE;
+    static final int MOST = Integer.MAX_VALUE;
+
     private Scene() {
     }
 
@@ -17,6 +20,20 @@ final class Scene {
         Pommel p = fencers(count);
         p.form(1);
         return p;
+    }
+
+    /** The number of the bout of these two spots in one pool of so many. */
+    static int bout(int count, int one, int other) {
+        int number = 0;
+        for (int sum = 1; sum < one + other; sum++) {
+            for (int smaller = 0; 2 * smaller < sum; smaller++) {
+                number += sum - smaller < count ? 1 : 0;
+            }
+        }
+        for (int smaller = 0; smaller < Math.min(one, other); smaller++) {
+            number += one + other - smaller < count ? 1 : 0;
+        }
+        return number;
     }
 
     /** Starts a bout on the piste 0, when both have rested. */
@@ -38,30 +55,45 @@ final class Scene {
         hits(p, 0, left > right ? 0 : 1, Math.max(left, right));
     }
 
-    /** Fences all bouts of the pools, by time: the one with the smaller number wins 1 to 0. */
+    /** Fences all bouts of the pools, by time: the left one, with the smaller number, wins 1 to 0. */
     static void fencePools(Pommel p) {
         int bouts = p.many(2);
         for (int i = 0; i < bouts; i++) {
             p.start(i, 0);
-            p.hit(0, p.ofBout(i, 1) < p.ofBout(i, 2) ? 0 : 1);
+            p.hit(0, 0);
             p.pass(300);
         }
     }
 
-    /** A table of all of one pool (nine fencers at most), whose seeds are the numbers. */
-    static Pommel table(int count) {
+    /** One pool that is fenced, whose order is that of the numbers. */
+    static Pommel fenced(int count) {
         Pommel p = pool(count);
         fencePools(p);
+        return p;
+    }
+
+    /** A table of all of one pool, whose seeds are the numbers. */
+    static Pommel table(int count) {
+        Pommel p = fenced(count);
         p.draw(0);
         return p;
     }
 
-    /** A table of sixteen out of four pools, whose seeds are the numbers. */
+    /** A table of sixteen out of four pools, whose seeds are the numbers; its bouts are 24 to 38. */
     static Pommel fullTable() {
         Pommel p = fencers(16);
         p.form(4);
         fencePools(p);
         p.draw(0);
+        return p;
+    }
+
+    /** Two that are left of a pool of three, the table not drawn yet: 1, who won, and 2. */
+    static Pommel twoLeft() {
+        Pommel p = pool(3);
+        p.start(0, 0);
+        p.card(0, 0, 2);
+        fence(p, 2, 5, 0);
         return p;
     }
 
